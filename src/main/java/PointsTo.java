@@ -826,7 +826,9 @@ public final class PointsTo {
                 }
             } else {
                 s.source = first;
-                if (!parseMember(s)) {
+                // Until more is seen, a name behind a dot is taken for the field of a load.
+                s.kind = Statement.LOAD;
+                if (!parseNameBehind('.', s)) {
                     return false;
                 }
             }
@@ -894,16 +896,10 @@ public final class PointsTo {
                     s.source = parseVariable();
                     return s.source != NONE;
                 default:
-                    s.kind = Statement.COPY;
                     s.source = parseVariable();
-                    return s.source != NONE && (kind() != '.' || parseMember(s));
+                    s.kind = kind() == '.' ? Statement.LOAD : Statement.COPY;
+                    return s.source != NONE && (s.kind == Statement.COPY || parseNameBehind('.', s));
             }
-        }
-
-        /** A field or method of the source; until more is seen it is taken for a load. */
-        private boolean parseMember(Statement s) {
-            s.kind = Statement.LOAD;
-            return parseNameBehind('.', s);
         }
     }
 

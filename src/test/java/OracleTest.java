@@ -1,0 +1,327 @@
+import java.util.ArrayList;
+import java.util.List;
+import java.util.Random;
+
+/** Made-up texts, whole and damaged, answered by the program and by the oracle. */
+public final class OracleTest {
+    private static final int TEXTS = 12000;
+    private static final Check CHECK = new Check("OracleTest");
+    private static final String[] CLASSES = {"a", "b", "c", "d", "e", "h", "i"};
+
+    private final Random random;
+    private final StringBuilder out = new StringBuilder();
+    private int depth;
+    private int classes;
+    private int size;
+
+    private OracleTest(long seed) {
+        random = new Random(seed);
+    }
+
+    public static void main(String[] args) {
+        long seed = args.length > 0 ? Long.parseLong(args[0]) : 1;
+        OracleTest maker = new OracleTest(seed);
+        int[] tally = new int[9];
+        PointsTo used = new PointsTo();
+        for (int i = 0; i < TEXTS; i++) {
+            String text = maker.text();
+            if (text.length() <= 320) {
+                used = i % 3 == 0 ? new PointsTo() : used;
+                Check.replace(used, text);
+                new Comparison(used, new Oracle(text), text, tally).all();
+            }
+        }
+        System.out.println("OracleTest: texts with a fault " + tally[0] + ", good " + tally[1] + ", with a start " + tally[2]
+            + "; runs that end " + tally[3] + ", of null " + tally[4] + ", cast " + tally[5] + ", lacking " + tally[6]
+            + ", too long " + tally[7]);
+        for (int i = 0; i < 8; i++) {
+            CHECK.same("texts of kind " + i + " are there", tally[i] > 20, true);
+        }
+        CHECK.end();
+    }
+
+    // ---- making texts ----
+
+    private boolean chance(int percent) {
+        return random.nextInt(100) < percent;
+    }
+
+    private String one(String... of) {
+        return of[random.nextInt(of.length)];
+    }
+
+    private void put(String... tokens) {
+        for (String t : tokens) {
+            boolean parted = out.length() > 0 && Character.isLetter(out.charAt(out.length() - 1))
+                && Character.isLetter(t.charAt(0));
+            out.append(parted || chance(1) ? " " : "").append(t);
+        }
+    }
+
+    private String text() {
+        out.setLength(0);
+        classes = 1 + random.nextInt(chance(10) ? 7 : 4);
+        size = 1 + random.nextInt(chance(20) ? 14 : 6);
+        for (int i = 0; i < classes; i++) {
+            put("class", CLASSES[i]);
+            if (i > 0 && chance(70)) {
+                put(":", CLASSES[random.nextInt(i)]);
+            }
+            put("{");
+            members(i);
+            put("}");
+        }
+        return chance(35) ? damaged(out.toString()) : out.toString();
+    }
+
+    private void members(int type) {
+        List<String> methods = new ArrayList<>(List.of("m", "n", "k"));
+        if (type == 0 && chance(97)) {
+            put("field", "f", ";");
+            method("go", chance(97) ? 0 : 1);
+            methods.remove(random.nextInt(3));
+        }
+        if (chance(type == 0 ? 20 : 40)) {
+            put("field", one("g", "l", "o", type == 0 ? "g" : "f"), ";");
+        }
+        for (String name : methods) {
+            if (chance(type == 0 ? 60 : 35)) {
+                method(name, name.equals("m") ? chance(90) ? 1 : 0 : name.equals("n") ? 0 : 2);
+            }
+        }
+    }
+
+    private void method(String name, int parameters) {
+        put("def", name, "(");
+        if (parameters > 0) {
+            put("p");
+        }
+        if (parameters > 1) {
+            put(",", "q");
+        }
+        put(")", "{");
+        int statements = name.equals("go") ? size + 2 : random.nextInt(1 + size / 2 + 1);
+        for (int i = 0; i < statements; i++) {
+            statement();
+        }
+        if (!name.equals("go") && chance(60)) {
+            put("return", variable(), ";");
+        }
+        put("}");
+    }
+
+    private String variable() {
+        return chance(25) ? "this" : chance(3) ? one("r", "s", "t", "u", "v", "w") : one("x", "x", "y", "y", "z", "p");
+    }
+
+    private String name() {
+        String name = variable();
+        return name.equals("this") ? "x" : name;
+    }
+
+    private String type() {
+        return CLASSES[random.nextInt(chance(1) ? 7 : classes)];
+    }
+
+    private void statement() {
+        int kind = random.nextInt(20);
+        if (kind < 2 && depth < (chance(2) ? 5 : 3)) {
+            put(kind == 0 ? "if" : one("if", "while"), variable());
+            boolean loop = out.lastIndexOf("while") > out.lastIndexOf("if");
+            body();
+            if (!loop && chance(40)) {
+                put("else");
+                body();
+            }
+        } else if (kind < 4) {
+            put(variable(), ".", field(), "=", variable(), ";");
+        } else if (kind < 7) {
+            call();
+            put(";");
+        } else if (kind == 7 && chance(20)) {
+            put("return", variable(), ";");
+        } else {
+            put(name(), "=");
+            right();
+            put(";");
+        }
+    }
+
+    private void body() {
+        depth++;
+        put("{");
+        for (int i = random.nextInt(3); i > 0; i--) {
+            statement();
+        }
+        put("}");
+        depth--;
+    }
+
+    private String field() {
+        return chance(85) ? "f" : one("g", "l", "o", "zz");
+    }
+
+    private void call() {
+        put(variable(), ".");
+        String name = chance(2) ? "zz" : one("m", "n", "k", "m", "n", "k", "go");
+        int arguments = chance(5) ? random.nextInt(3) : name.equals("m") ? 1 : name.equals("k") ? 2 : 0;
+        put(name, "(");
+        if (arguments > 0) {
+            put(variable());
+        }
+        if (arguments > 1) {
+            put(",", variable());
+        }
+        put(")");
+    }
+
+    private void right() {
+        int kind = random.nextInt(10);
+        if (kind < 4) {
+            put("new", type());
+        } else if (kind == 4 && chance(50)) {
+            put("null");
+        } else if (kind == 5) {
+            put("(", type(), ")", variable());
+        } else if (kind == 6) {
+            put(variable(), ".", field());
+        } else if (kind == 7) {
+            call();
+        } else {
+            put(variable());
+        }
+    }
+
+    private String damaged(String text) {
+        StringBuilder s = new StringBuilder(text);
+        int at = random.nextInt(s.length());
+        String[] pieces = {"{", "}", "(", ")", "=", ".", ",", ";", ":", " ", "class ", "field ", "def ", "new ", "null",
+            "if ", "else", "while ", "return ", "this", "x", "abcdefg", "A", "1", "~", "a", "go"};
+        switch (random.nextInt(5)) {
+            case 0 -> s.deleteCharAt(at);
+            case 1 -> s.insert(at, one(pieces));
+            case 2 -> s.replace(at, at + 1, one(pieces));
+            case 3 -> s.setLength(at);
+            default -> s.replace(at, Math.min(s.length(), at + 1 + random.nextInt(6)), chance(50) ? "" : one(pieces));
+        }
+        return chance(10) && s.length() > 0 ? damaged(s.toString()) : s.toString();
+    }
+
+    // ---- comparing ----
+
+    private static final class Comparison {
+        private final PointsTo x;
+        private final Oracle o;
+        private final String text;
+        private final int[] tally;
+
+        Comparison(PointsTo x, Oracle o, String text, int[] tally) {
+            this.x = x;
+            this.o = o;
+            this.text = text;
+            this.tally = tally;
+        }
+
+        private void due(String what, Check.Call call, int want) {
+            CHECK.due(what + " in " + text, call, want);
+        }
+
+        void all() {
+            String told = Check.told(x::read);
+            CHECK.same("read of " + text, told, o.fault < 0 ? "" + o.pairs() : "throws.IllegalArgumentException");
+            due("fault", x::fault, o.fault);
+            tally[o.fault < 0 ? 1 : 0]++;
+            if (o.fault < 0 && x.fault() < 0) {
+                counts();
+                variables();
+                others();
+                run();
+            }
+        }
+
+        private void counts() {
+            int[] want = {o.classes.size(), o.methods.size(), o.fields.size(), o.calls.size(), o.casts.size(),
+                o.sites.size(), o.variables.size(), o.lastRound};
+            for (int what = 0; what < want.length; what++) {
+                int asked = what;
+                due("count " + what, () -> x.count(asked), want[what]);
+            }
+            due("count 9", () -> x.count(9), text.length());
+        }
+
+        private void variables() {
+            for (int v = 0; v < o.variables.size(); v++) {
+                int variable = v;
+                for (int s = 0; s < o.sites.size(); s++) {
+                    int site = s;
+                    due("may " + v + " " + s, () -> x.may(variable, site), o.fact(Oracle.may(v, s)));
+                }
+                int other = v * 7 % o.variables.size();
+                due("alias " + v + " " + other, () -> x.alias(variable, other), o.alias(v, other));
+            }
+        }
+
+        private void others() {
+            for (int c = 0; c < o.calls.size(); c++) {
+                for (int m = 0; m < o.methods.size(); m++) {
+                    int call = c;
+                    int method = m;
+                    due("goes " + c + " " + m, () -> x.goes(call, method), o.fact("goes " + c + " " + m));
+                }
+            }
+            for (int m = 0; m < o.methods.size(); m++) {
+                int method = m;
+                Oracle.Method want = o.methods.get(m);
+                due("reached " + m, () -> x.reached(method), o.fact("reached " + m));
+                int[] parts = {want.result(), want.self(), want.parameter(0), want.parameter(1), want.owner()};
+                for (int what = 0; what < 5; what++) {
+                    int asked = what;
+                    due("method " + m + " " + what, () -> x.method(method, asked), parts[what]);
+                }
+            }
+            for (int c = 0; c < o.casts.size(); c++) {
+                int cast = c;
+                due("safe " + c, () -> x.safe(cast), o.safe(c));
+            }
+            for (int i = 0; i < o.sites.size() * o.fields.size() * o.sites.size(); i++) {
+                int site = i % o.sites.size();
+                int target = i / o.sites.size() % o.sites.size();
+                int field = i / o.sites.size() / o.sites.size();
+                String fact = "holds " + site + " " + field + " " + target;
+                due(fact, () -> x.holds(site, field, target), o.fact(fact));
+            }
+        }
+
+        private void run() {
+            due("seen before the run", () -> seenOnes(false), 0);
+            String told = Check.told(o::run);
+            CHECK.same("run of " + text, Check.told(x::run), told);
+            if (!o.hasStart()) {
+                return;
+            }
+            tally[2]++;
+            String[] kinds = {"", "NoSuch", "Unsupp", "IndexO", "Illega"};
+            for (int k = 0; k < kinds.length; k++) {
+                tally[3 + k] += k == 0 ? told.startsWith("throws") ? 0 : 1 : told.startsWith("throws." + kinds[k]) ? 1 : 0;
+            }
+            due("count 8", () -> x.count(8), o.made);
+            due("what was seen", () -> seenOnes(true), o.seen.size());
+        }
+
+        /** How many pairs were seen; each must be one that may be. */
+        private int seenOnes(boolean hasRun) {
+            int ones = 0;
+            for (int v = 0; v < o.variables.size(); v++) {
+                for (int s = 0; s < o.sites.size(); s++) {
+                    int seen = x.seen(v, s);
+                    ones += seen;
+                    if (hasRun) {
+                        CHECK.same("seen " + v + " " + s + " in " + text, seen, o.seen.contains(v + " " + s) ? 1 : 0);
+                        CHECK.same("seen but not found " + v + " " + s + " in " + text, seen == 1 && x.may(v, s) < 0, false);
+                    }
+                }
+            }
+            return ones;
+        }
+    }
+}
