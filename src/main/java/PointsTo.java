@@ -351,7 +351,7 @@ public final class PointsTo {
         // The name of a field, a method or a class, and its place in the text.
         int name;
         int place;
-        // The number of the field, call, site or cast; NONE for a field that no class declares.
+        // The number of the field, call or site; NONE for a field that no class declares.
         int number;
         // The class behind new or of the cast.
         int type;
@@ -400,12 +400,10 @@ public final class PointsTo {
             fieldCount = 0;
             callCount = 0;
             castCount = 0;
-            // Site 0 is that of the start's object, which no text makes.
+            // Site 0 is that of the start's object, which no text makes; it is always of class 0.
             siteCount = 1;
-            siteClass[0] = 0;
             variableCount = 0;
             statementCount = 0;
-            start = NONE;
         }
 
         private static int indexIn(int[] row, int end, int value) {
@@ -554,11 +552,7 @@ public final class PointsTo {
             Statement added = statements[statementCount];
             added.method = methodCount - 1;
             added.target = NONE;
-            added.source = NONE;
-            added.number = NONE;
             added.arguments = 0;
-            added.firstArgument = 0;
-            added.secondArgument = 0;
             statementCount++;
             return added;
         }
@@ -589,7 +583,6 @@ public final class PointsTo {
                 return false;
             }
             s.kind = Statement.CAST;
-            s.number = castCount;
             castStatement[castCount] = statementCount - 1;
             castCount++;
             return true;
@@ -866,17 +859,22 @@ public final class PointsTo {
                 return false;
             }
             at++;
-            if (kind() == ')') {
-                return take(')');
+            if (kind() != ')') {
+                s.firstArgument = parseVariable();
+                s.arguments = 1;
+                if (s.firstArgument == NONE) {
+                    return false;
+                }
             }
-            s.firstArgument = parseVariable();
-            s.arguments = 1;
-            if (s.firstArgument != NONE && kind() == ',') {
+            if (s.arguments == 1 && kind() == ',') {
                 at++;
                 s.secondArgument = parseVariable();
                 s.arguments = 2;
+                if (s.secondArgument == NONE) {
+                    return false;
+                }
             }
-            return s.firstArgument != NONE && s.secondArgument != NONE && take(')');
+            return take(')');
         }
 
         private boolean parseRight(Statement s) {

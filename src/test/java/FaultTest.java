@@ -271,6 +271,14 @@ public final class FaultTest {
         CHECK.due("read of the good text", x::read, 2);
         CHECK.due("no fault", x::fault, -1);
         CHECK.due("nothing is seen", () -> x.seen(2, 0), 0);
+        for (String bad : new String[] {"this.m(this,;", "this.m(;", "x=this.m(this,this);}", "if x{", "y=new b;", "p=x=y;"}) {
+            Check.replace(x, "class a{field f;field g;def k(q,r){q.f=r;}def go(){" + bad);
+            CHECK.thrown("read of " + bad, x::read, IllegalArgumentException.class);
+            Check.replace(x, "class a{def m(p){p.m();}def go(){this.m(this);x=new a;}}");
+            CHECK.due("nothing is left of " + bad, x::read, 4);
+            CHECK.due("no fields are left of " + bad, () -> x.count(2), 0);
+            CHECK.due("the argument behind " + bad, () -> x.may(2, 0), 2);
+        }
         Check.replace(x, "class c{}");
         CHECK.due("read of a text without a start", x::read, 0);
         CHECK.due("no variables", () -> x.count(6), 0);

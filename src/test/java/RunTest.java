@@ -41,6 +41,8 @@ public final class RunTest {
         ends("if x{x=this;}x=x;", 2);
         ends("if this{if this{if x{}else{x=this;}}x=x;}x=x;", 6);
         ends("return this;x=x;", 1);
+        ends("x=x;".repeat(40), 40);
+        ends("if this{" + "x=x;".repeat(39) + "}", 40);
         ends("if this{return x;}x=x;", 2);
     }
 
@@ -99,6 +101,14 @@ public final class RunTest {
         fails("x=new b;x=(c)x;", failure);
         ends("x=new c;x=(b)x;x=(c)x;", 3);
         ends("x=(b)n;if x{x=this;}", 2);
+        PointsTo deep = Check.reader("class a{field f;def go(){x=new e;y=(a)x;y.f=this;y.m();z=(e)y;z=(d)z;x=(e)this;}def m(){}}"
+            + "class b:a{}class c:b{}class g:c{}class d:g{}class e:d{}");
+        CHECK.thrown("cast along six classes", deep::run, UnsupportedOperationException.class);
+        CHECK.due("seen behind the cast to the uppermost", () -> deep.seen(3, 1), 1);
+        CHECK.due("the call goes to the uppermost", () -> deep.goes(0, 1), 3);
+        CHECK.due("seen behind the other casts", () -> deep.seen(4, 1), 1);
+        CHECK.due("safe", () -> deep.safe(0), 1);
+        CHECK.due("not safe", () -> deep.safe(3), 0);
         PointsTo x = goes("x=new b;y=(c)x;");
         CHECK.thrown("cast", x::run, failure);
         CHECK.due("seen before the failure", () -> x.seen(2, 1), 1);
