@@ -61,6 +61,8 @@ public final class FaultTest {
         at("class a{field ^fffffff;}");
         at("class^0");
         at("^~");
+        at("^" + ";".repeat(320));
+        at("class a{}^" + ";".repeat(311));
     }
 
     private static void classes() {
