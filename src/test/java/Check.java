@@ -29,6 +29,27 @@ final class Check {
         same(what, told(call), "throws." + want.getSimpleName());
     }
 
+    /** A call must throw, and what can be asked must stay as it was. */
+    void refused(String what, PointsTo x, Call call, Class<? extends RuntimeException> want) {
+        String before = State.all(x);
+        thrown(what, call, want);
+        same("what stands behind " + what, State.all(x), before);
+    }
+
+    /** Reads a text that has its fault at the token behind ^, and none if no ^ is in it. */
+    void faultAt(String marked) {
+        int place = marked.indexOf('^');
+        String text = place < 0 ? marked : marked.substring(0, place) + marked.substring(place + 1);
+        PointsTo x = new PointsTo();
+        append(x, text);
+        String told = told(x::read);
+        same("read of " + marked, told.startsWith("throws"), place >= 0);
+        if (place >= 0) {
+            same("read of " + marked, told, "throws.IllegalArgumentException");
+        }
+        due("fault of " + marked, x::fault, place);
+    }
+
     void same(String what, Object got, Object want) {
         compared++;
         if (!got.equals(want)) {
@@ -55,6 +76,24 @@ final class Check {
         return value;
     }
 
+    /** Statements that bring in names of one letter as variables, two in each. */
+    static String copies(String names) {
+        StringBuilder s = new StringBuilder();
+        for (int i = 0; i < names.length(); i += 2) {
+            s.append(names.charAt(i)).append('=').append(names.charAt(Math.min(i + 1, names.length() - 1))).append(';');
+        }
+        return s.toString();
+    }
+
+    /** A pattern for each of the first letters, which stand in the place of %. */
+    static String lettered(String pattern, int letters) {
+        StringBuilder s = new StringBuilder();
+        for (int i = 0; i < letters; i++) {
+            s.append(pattern.replace('%', (char) ('a' + i)));
+        }
+        return s.toString();
+    }
+
     /** Puts a text in the place of the one that is there. */
     static void replace(PointsTo x, String text) {
         x.cut(x.count(9));
@@ -66,6 +105,13 @@ final class Check {
         PointsTo x = new PointsTo();
         append(x, text);
         told(x::read);
+        return x;
+    }
+
+    /** A new object that has read a text without a fault. */
+    PointsTo good(String text) {
+        PointsTo x = reader(text);
+        due("fault of " + text, x::fault, -1);
         return x;
     }
 

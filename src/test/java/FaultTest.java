@@ -15,16 +15,7 @@ public final class FaultTest {
     }
 
     private static void at(String marked) {
-        int place = marked.indexOf('^');
-        String text = place < 0 ? marked : marked.substring(0, place) + marked.substring(place + 1);
-        PointsTo x = new PointsTo();
-        Check.append(x, text);
-        String told = Check.told(x::read);
-        CHECK.same("read of " + marked, told.startsWith("throws"), place >= 0);
-        if (place >= 0) {
-            CHECK.same("read of " + marked, told, "throws.IllegalArgumentException");
-        }
-        CHECK.due("fault of " + marked, x::fault, place);
+        CHECK.faultAt(marked);
     }
 
     private static void inBody(String marked) {
@@ -181,9 +172,9 @@ public final class FaultTest {
         at("class a{" + eight + "field ^i;}");
         at("class a{" + eight + "}class b{field h;field a;}");
         at("class a{" + eight + "}class b{field h;field ^z;}");
-        at("class a{" + numbered("def %(){}", 10) + "}");
-        at("class a{" + numbered("def %(){}", 10) + "def ^z(){}}");
-        at("class a{" + numbered("def %(){}", 6) + "}class b{" + numbered("def %(){}", 4) + "def ^z(){}}");
+        at("class a{" + Check.lettered("def %(){}", 10) + "}");
+        at("class a{" + Check.lettered("def %(){}", 10) + "def ^z(){}}");
+        at("class a{" + Check.lettered("def %(){}", 6) + "}class b{" + Check.lettered("def %(){}", 4) + "def ^z(){}}");
         at("class a{def m(){" + "m.m();m=m.m(m);".repeat(6) + "}}");
         at("class a{def m(){" + "m.m();m=m.m(m);".repeat(6) + "m=this.^m();}}");
         at("class a{def m(){" + "m.m();m=m.m(m);".repeat(6) + "m.^m(m);}}");
@@ -224,22 +215,8 @@ public final class FaultTest {
         at("class a{def m(){" + alphabet(24) + "}def n(){" + alphabet(16) + "}def o(p,q){p=q;^r=p;}}");
     }
 
-    /** Statements that bring in the first letters as variables, two at a time. */
     private static String alphabet(int letters) {
-        StringBuilder s = new StringBuilder();
-        for (int i = 0; i < letters; i += 2) {
-            char first = (char) ('a' + i);
-            s.append(first).append('=').append(i + 1 < letters ? (char) (first + 1) : first).append(';');
-        }
-        return s.toString();
-    }
-
-    private static String numbered(String pattern, int times) {
-        StringBuilder s = new StringBuilder();
-        for (int i = 0; i < times; i++) {
-            s.append(pattern.replace('%', (char) ('a' + i)));
-        }
-        return s.toString();
+        return Check.copies("abcdefghijklmnopqrstuvwxyz".substring(0, letters));
     }
 
     private static void unknownClasses() {

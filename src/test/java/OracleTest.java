@@ -52,7 +52,7 @@ public final class OracleTest {
 
     private void put(String... tokens) {
         for (String t : tokens) {
-            boolean parted = out.length() > 0 && Character.isLetter(out.charAt(out.length() - 1))
+            boolean parted = out.length() > 0 && !t.isEmpty() && Character.isLetter(out.charAt(out.length() - 1))
                 && Character.isLetter(t.charAt(0));
             out.append(parted || chance(1) ? " " : "").append(t);
         }
@@ -60,6 +60,10 @@ public final class OracleTest {
 
     private String text() {
         out.setLength(0);
+        if (chance(20)) {
+            crowd(random.nextInt(9));
+            return chance(10) ? damaged(out.toString()) : out.toString();
+        }
         classes = 1 + random.nextInt(chance(10) ? 7 : 4);
         size = 1 + random.nextInt(chance(20) ? 14 : 6);
         for (int i = 0; i < classes; i++) {
@@ -72,6 +76,77 @@ public final class OracleTest {
             put("}");
         }
         return chance(35) ? damaged(out.toString()) : out.toString();
+    }
+
+    /** A text with as many of one kind as may be, or one less or more. */
+    private void crowd(int kind) {
+        int[] limits = {6, 10, 8, 12, 8, 11, 11, 40, 3};
+        int wanted = limits[kind] - 1 + random.nextInt(3);
+        classes = 2;
+        if (kind < 3) {
+            crowdOfNames(kind, wanted);
+            return;
+        }
+        put("class", "a", "{", "field", "f", ";", "def", "go", "(", ")", "{");
+        int before = kind == 6 ? 11 : kind == 8 ? -1 : random.nextInt(3);
+        for (int i = 0; i < wanted; i++) {
+            if (i == before) {
+                put("}", "def", "m", "(", chance(50) ? "p" : " ", ")", "{");
+            }
+            crowdOne(kind, i);
+        }
+        if (kind == 6) {
+            put("}", "def", "n", "(", "p", ")", "{");
+            for (int i = random.nextInt(2); i < 11; i++) {
+                crowdOne(kind, i);
+            }
+        } else if (kind == 8) {
+            put("}".repeat(chance(97) ? wanted : wanted - 1));
+        }
+        if (chance(30)) {
+            statement();
+        }
+        put("}", "}", "class", "b", ":", "a", "{", "}");
+    }
+
+    private void crowdOfNames(int kind, int wanted) {
+        String[] names = {"a", "b", "c", "d", "e", "f", "g", "h", "i", "j", "k", "l"};
+        put("class", "a", "{");
+        for (int i = kind == 0 ? 1 : 0; i < wanted; i++) {
+            String name = chance(2) ? one(names) : names[i];
+            if (kind == 0 || chance(8)) {
+                put("}", "class", kind == 0 ? name : "z" + names[i], kind == 0 && chance(50) ? ":a{" : "{");
+            }
+            if (kind == 1) {
+                put("def", name, chance(50) ? "(){" : "(p){", chance(20) ? "return p;}" : "}");
+            } else if (kind == 2) {
+                put("field", name, ";");
+            }
+        }
+        put("}");
+    }
+
+    private void crowdOne(int kind, int number) {
+        switch (kind) {
+            case 3 -> put(chance(50) ? "x=" : "", "x.", one("m", "n", "f"), chance(50) ? "(x)" : "()", ";");
+            case 4 -> put("x=(", type(), ")", variable(), ";");
+            case 5 -> put(name(), "=new", type(), ";");
+            case 6 -> crowdPair("" + (char) ('a' + 2 * number), "" + (char) ('b' + 2 * number));
+            case 7 -> put("x=x;");
+            default -> put(chance(50) ? "if x{" : chance(50) ? "while x{" : "if x{}else{", chance(20) ? "x=x;" : " ");
+        }
+        if (chance(3) && kind != 8) {
+            statement();
+        }
+    }
+
+    private void crowdPair(String first, String second) {
+        switch (random.nextInt(10)) {
+            case 0 -> put(first, ".f=", second, ";");
+            case 1 -> put(first, ".m(this,", second, ");");
+            case 2 -> put(first, "=(a)", second, ";");
+            default -> put(first, "=", second, ";");
+        }
     }
 
     private void members(int type) {

@@ -20,9 +20,7 @@ public final class RunTest {
     }
 
     private static PointsTo goes(String body) {
-        PointsTo x = Check.reader("class a{field f;def go(){" + body + "}}class b{field g;}class c:b{}");
-        CHECK.due("fault of " + body, x::fault, -1);
-        return x;
+        return CHECK.good("class a{field f;def go(){" + body + "}}class b{field g;}class c:b{}");
     }
 
     private static void ends(String body, int begun) {
