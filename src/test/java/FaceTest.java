@@ -17,6 +17,7 @@ public final class FaceTest {
 
     public static void main(String[] args) throws IOException {
         face();
+        hiddenMethods();
         source(Files.readString(Path.of("src/main/java/PointsTo.java")));
         CHECK.end();
     }
@@ -61,6 +62,23 @@ public final class FaceTest {
             CHECK.same(c.getName() + " has at most twenty fields", fields <= 20, true);
         }
         CHECK.same("at most twelve classes", PointsTo.class.getDeclaredClasses().length < 12, true);
+    }
+
+    /** Rules 1 and 11: no hidden method has a name of the face, none more than seven parameters. */
+    private static void hiddenMethods() {
+        Set<String> open = new TreeSet<>();
+        Set<String> hidden = new TreeSet<>();
+        for (Method m : PointsTo.class.getDeclaredMethods()) {
+            (Modifier.isPublic(m.getModifiers()) ? open : hidden).add(m.getName());
+        }
+        for (Class<?> c : PointsTo.class.getDeclaredClasses()) {
+            for (Method m : c.getDeclaredMethods()) {
+                hidden.add(m.getName());
+                CHECK.same(m + " has at most seven parameters", m.getParameterCount() <= 7, true);
+            }
+        }
+        hidden.retainAll(open);
+        CHECK.same("hidden methods with a name of the face", hidden.toString(), "[]");
     }
 
     private static void source(String source) {

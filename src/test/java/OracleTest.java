@@ -1,4 +1,5 @@
 import java.util.ArrayList;
+import java.util.Arrays;
 import java.util.List;
 import java.util.Random;
 
@@ -31,6 +32,7 @@ public final class OracleTest {
                 new Comparison(used, new Oracle(text), text, tally).all();
             }
         }
+        everyTokenAtEveryPlace(tally);
         System.out.println("OracleTest: texts with a fault " + tally[0] + ", good " + tally[1] + ", with a start " + tally[2]
             + "; runs that end " + tally[3] + ", of null " + tally[4] + ", cast " + tally[5] + ", lacking " + tally[6]
             + ", too long " + tally[7]);
@@ -38,6 +40,30 @@ public final class OracleTest {
             CHECK.same("texts of kind " + i + " are there", tally[i] > 20, true);
         }
         CHECK.end();
+    }
+
+    /** A text that has all of the grammar, with each token put before, and in the place of, each of its own. */
+    private static void everyTokenAtEveryPlace(int[] tally) {
+        String[] tokens = ("class a { field f ; def go ( ) { x = new a ; if x { } else { } while x { x = null ; } return x ; } "
+            + "def m ( p , q ) { p . f = this ; p . m ( p , q ) ; x = ( a ) p ; x = p ; x = q . f ; x = p . m ( q ) ; } } class b : a { }").split(" ");
+        String[] others = ("{ } ( ) = . , ; : class field def new null if else while return this a b x f go z abcdefg A").split(" ");
+        for (int i = 0; i <= tokens.length; i++) {
+            String before = String.join(" ", Arrays.copyOfRange(tokens, 0, i));
+            String behind = String.join(" ", Arrays.copyOfRange(tokens, i, tokens.length));
+            int next = behind.indexOf(' ');
+            String without = next < 0 ? "" : behind.substring(next);
+            compare(before + without, tally);
+            for (String other : others) {
+                compare(before + " " + other + " " + behind, tally);
+                compare(before + " " + other + without, tally);
+            }
+        }
+    }
+
+    private static void compare(String text, int[] tally) {
+        PointsTo x = new PointsTo();
+        Check.append(x, text);
+        new Comparison(x, new Oracle(text), text, tally).all();
     }
 
     // ---- making texts ----

@@ -23,6 +23,8 @@ public final class ReadBoundsTest {
         longWords();
         wordsThatAreNoNames();
         wordsThatAreNames();
+        oneOrNone();
+        nothingMore();
         lackingTokens();
         emptyTexts();
         classes();
@@ -156,6 +158,53 @@ public final class ReadBoundsTest {
         for (String place : VAR_PLACES) {
             inBody(place.replace("^", "").replace("%", "this"));
         }
+    }
+
+    /** "[ ] one or none, < > any number": none, one, and one more than there may be. */
+    private static void oneOrNone() {
+        at("class a{}class b{}");
+        at("class a{}class b:a{}");
+        at("class a{}class b:a^:a{}");
+        at("class a{}class b:a^,a{}");
+        at("class a{field f;}");
+        at("class a{field f;field g;def m(){}field h;}");
+        at("class a{field f^,g;}");
+        for (String end : new String[] {"^{}", "){}"}) {
+            at("class a{def m(" + end + "}");
+            at("class a{def m(p" + end + "}");
+            at("class a{def m(p,q" + end + "}");
+        }
+        at("class a{def m(p,q^,r){}}");
+        at("class a{def m(p,^){}}");
+        inBody("");
+        inBody("p=p;");
+        for (String call : new String[] {"p.m(", "p=p.m("}) {
+            inBody(call + ");");
+            inBody(call + "p);");
+            inBody(call + "p,p);");
+            inBody(call + "p,p^,p);");
+            inBody(call + "p,^);");
+            inBody(call + "^,p);");
+        }
+        inBody("if p{}");
+        inBody("if p{}else{}");
+        inBody("if p{}else{}^else{}");
+        inBody("while p{}");
+        inBody("while p{}^else{}");
+    }
+
+    /** "PROGRAM: CLASS <CLASS> and nothing more". */
+    private static void nothingMore() {
+        for (String word : WORDS) {
+            at("class a{}" + (word.equals("class") ? "class^" : "^" + word));
+        }
+        for (char sign : SIGNS.toCharArray()) {
+            at("class a{}^" + sign);
+            at("^" + sign + "class a{}");
+        }
+        at("class a{}^a");
+        at("class a{}class b{} ^b");
+        at("class a{} ");
     }
 
     /** "where one lacks, behind the last one's end": a text that stops behind each of its tokens. */
